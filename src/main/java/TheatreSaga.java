@@ -112,11 +112,10 @@ public final class TheatreSaga {
 
     private static final int NONE = -1;
 
-    private final Books books = new Books();
-    private final Theatre theatre = new Theatre(books);
-    private final Judge judge = new Judge(books);
-    private final Books aheadBooks = new Books();
-    private final Theatre ahead = new Theatre(aheadBooks);
+    private final Theatre theatre = new Theatre();
+    private final Books books = theatre.books;
+    private final Theatre ahead = new Theatre();
+    private final Judge judge = new Judge();
     private final History history = new History();
     private final Books beforeText = new Books();
     private final Books snapshot = new Books();
@@ -131,26 +130,26 @@ public final class TheatreSaga {
     // ---- tours, steps
 
     public int tour(int limit) throws IllegalArgumentException, UnsupportedOperationException {
-        allow(judge.planning(limit));
+        allow(judge.planning(books, limit));
         history.keep(books);
         return theatre.planTour(limit);
     }
 
     public int step(int tour, int kind, int town, int day, int many)
             throws IndexOutOfBoundsException, IllegalArgumentException, UnsupportedOperationException {
-        allow(judge.giving(tour, kind, town, day, many));
+        allow(judge.giving(books, tour, kind, town, day, many));
         history.keep(books);
         return theatre.giveStep(tour, kind, town, day, many);
     }
 
     public int start(int tour) throws IndexOutOfBoundsException, UnsupportedOperationException {
-        allow(judge.starting(tour));
+        allow(judge.starting(books, tour));
         history.keep(books);
         return theatre.startTour(tour);
     }
 
     public int back(int tour) throws IndexOutOfBoundsException, UnsupportedOperationException {
-        allow(judge.callingBack(tour));
+        allow(judge.callingBack(books, tour));
         history.keep(books);
         return theatre.callBack(tour);
     }
@@ -171,7 +170,7 @@ public final class TheatreSaga {
     // ---- towns, hours
 
     public int shut(int town, boolean isShut) throws IndexOutOfBoundsException, UnsupportedOperationException {
-        allow(judge.shutting(town, isShut));
+        allow(judge.shutting(books, town, isShut));
         history.keep(books);
         return theatre.shutTown(town, isShut);
     }
@@ -226,7 +225,7 @@ public final class TheatreSaga {
         if (books.get(ofTour(tour, CONDITION)) == PLANNED) {
             throw new NoSuchElementException("the tour is planned");
         }
-        aheadBooks.take(books);
+        ahead.books.take(books);
         int hours = ahead.hoursToTheEnd(tour);
         if (hours == NONE) {
             throw new NoSuchElementException("the tour does not end within the hours that are looked at");
@@ -435,19 +434,19 @@ public final class TheatreSaga {
     private int judgeCommand() {
         switch (text.word()) {
             case SAY_TOUR:
-                return judge.planning(text.first());
+                return judge.planning(books, text.first());
             case SAY_START:
-                return judge.starting(text.first());
+                return judge.starting(books, text.first());
             case SAY_BACK:
-                return judge.callingBack(text.first());
+                return judge.callingBack(books, text.first());
             case SAY_SHUT:
-                return judge.shutting(text.first(), true);
+                return judge.shutting(books, text.first(), true);
             case SAY_OPEN:
-                return judge.shutting(text.first(), false);
+                return judge.shutting(books, text.first(), false);
             case SAY_HOURS:
                 return judge.passing(text.first());
             default:
-                return judge.giving(text.first(), text.kind(), text.town(), text.day(), text.many());
+                return judge.giving(books, text.first(), text.kind(), text.town(), text.day(), text.many());
         }
     }
 
@@ -565,11 +564,7 @@ public final class TheatreSaga {
 
     /** What happens to the books, and what can be told from them. */
     private static final class Theatre {
-        private final Books books;
-
-        Theatre(Books books) {
-            this.books = books;
-        }
+        private final Books books = new Books();
 
         int planTour(int limit) {
             int tour = books.get(TOURS);
@@ -840,13 +835,8 @@ public final class TheatreSaga {
 
     /** Says whether a change may be made, in the order of the exceptions, and keeps the latest refusal. */
     private static final class Judge {
-        private final Books books;
         private int latestReason = FINE;
         private int latestDetail = 0;
-
-        Judge(Books books) {
-            this.books = books;
-        }
 
         int reason() {
             return latestReason;
@@ -862,15 +852,15 @@ public final class TheatreSaga {
             return reason;
         }
 
-        int planning(int limit) {
+        int planning(Books books, int limit) {
             if (!isWithin(limit, 0, MOST_LIMIT)) {
                 return OUT_OF_RANGE;
             }
             return books.get(TOURS) < MOST_TOURS ? FINE : refuse(AS_MANY_AS_CAN_BE, MOST_TOURS);
         }
 
-        int giving(int tour, int kind, int town, int day, int many) {
-            if (!hasTour(tour) || !isBelow(town, TOWNS) || !isBelow(day, DAYS)) {
+        int giving(Books books, int tour, int kind, int town, int day, int many) {
+            if (!hasTour(books, tour) || !isBelow(town, TOWNS) || !isBelow(day, DAYS)) {
                 return NO_SUCH_THING;
             }
             if (!isBelow(kind, KINDS) || !isWithin(many, 1, mostOf(kind))) {
@@ -887,8 +877,8 @@ public final class TheatreSaga {
             return books.get(ofTour(tour, STEPS)) < MOST_STEPS ? FINE : refuse(AS_MANY_AS_CAN_BE, MOST_STEPS);
         }
 
-        int starting(int tour) {
-            if (!hasTour(tour)) {
+        int starting(Books books, int tour) {
+            if (!hasTour(books, tour)) {
                 return NO_SUCH_THING;
             }
             int condition = books.get(ofTour(tour, CONDITION));
@@ -898,15 +888,15 @@ public final class TheatreSaga {
             return books.get(ofTour(tour, STEPS)) > 0 ? FINE : refuse(NO_STEP, tour);
         }
 
-        int callingBack(int tour) {
-            if (!hasTour(tour)) {
+        int callingBack(Books books, int tour) {
+            if (!hasTour(books, tour)) {
                 return NO_SUCH_THING;
             }
             int condition = books.get(ofTour(tour, CONDITION));
             return condition == RUNS ? FINE : refuse(NOT_AS_IT_MUST_BE, condition);
         }
 
-        int shutting(int town, boolean isShut) {
+        int shutting(Books books, int town, boolean isShut) {
             if (!isBelow(town, TOWNS)) {
                 return NO_SUCH_THING;
             }
@@ -918,7 +908,7 @@ public final class TheatreSaga {
             return isWithin(hours, 1, MOST_HOURS) ? FINE : OUT_OF_RANGE;
         }
 
-        private boolean hasTour(int tour) {
+        private static boolean hasTour(Books books, int tour) {
             return isBelow(tour, books.get(TOURS));
         }
     }

@@ -23,6 +23,7 @@ public final class PromiseTest {
         backward();
         tourOf();
         stepOf();
+        asMuchAsCanBe();
         shut();
         dear();
         townOf();
@@ -312,6 +313,43 @@ public final class PromiseTest {
         Check.refuses("what 5", () -> x.stepOf(0, 1, 5), ARGUMENT);
     }
 
+    private static void asMuchAsCanBe() {
+        TheatreSaga x = new TheatreSaga();
+        for (int tour = 0; tour < 6; tour++) {
+            x.tour(tour % 5);
+            for (int step = 0; step < 8; step++) {
+                x.step(tour, 2, (tour + step) % 5, 2 * step + tour, 1);
+            }
+        }
+        for (int town = 0; town < 5; town++) {
+            x.dear(town, 1);
+        }
+        for (int tour = 5; tour >= 0; tour--) {
+            Check.same("they run", x.start(tour), 6 - tour);
+            Check.same("what it would cost", x.costs(tour), 8);
+        }
+        Check.same("all are done in the last hour", x.pass(7) * 10 + x.pass(1), 6);
+        for (int tour = 0; tour < 6; tour++) {
+            for (int step = 0; step < 8; step++) {
+                Check.same("the town", x.stepOf(tour, step, 1), (tour + step) % 5);
+                Check.same("the day", x.stepOf(tour, step, 2), 2 * step + tour);
+                Check.same("paid", x.stepOf(tour, step, 4), 1);
+                Check.same("left", x.left(2, (tour + step) % 5, 2 * step + tour), 11);
+                Check.same("left again", x.leftAgain(2, (tour + step) % 5, 2 * step + tour), 11);
+            }
+            Check.same("the limit", x.tourOf(tour, 1), tour % 5);
+            Check.same("nothing more", x.costs(tour), 0);
+        }
+        int[] booked = {10, 10, 10, 9, 9};
+        for (int town = 0; town < 5; town++) {
+            Check.same("booked there", x.townOf(town, 2), booked[town]);
+            Check.same("paid there", x.townOf(town, 3), booked[town]);
+        }
+        Check.same("all booked steps", x.number(15), 48);
+        Check.same("all coins", x.number(7), 52);
+        Check.same("all coins again", x.coinsAgain(), 52);
+    }
+
     private static void shut() {
         TheatreSaga x = new TheatreSaga();
         for (int wild : WILD) {
@@ -558,7 +596,10 @@ public final class PromiseTest {
         Check.refuses("none", () -> x.cheapest(0, 0, 0), ARGUMENT);
         Check.refuses("13", () -> x.cheapest(2, 0, 13), ARGUMENT);
         Check.refuses("two halls", () -> x.cheapest(0, 0, 2), NONE);
-        tell(x, "shut 0;shut 1;shut 2;shut 3;shut 4");
+        tell(x, "shut 0;shut 1;shut 2;shut 3");
+        x.dear(4, 5);
+        Check.same("the only one that is open", x.cheapest(2, 0, 1), 4);
+        x.shut(4, true);
         Check.refuses("all are shut", () -> x.cheapest(2, 0, 1), NONE);
     }
 
@@ -682,6 +723,10 @@ public final class PromiseTest {
         Check.same("hours", tell(x, "start 1;hours 02;back 1;hours 40"), 4);
         Check.same("undone", lineOf(x, 1), "1u h2/5 w3/9x4 b4/19x7");
         Check.same("the hour", x.number(0), 42);
+        Check.same("open", tell(x, "open 1;shut 3;open 3"), 3);
+        Check.same("all are open", x.number(14), 5);
+        Check.same("the shut town again", x.undo(), 4);
+        Check.same("four are open", x.number(14), 4);
         Check.same("all is one change", x.undo(), 3);
         Check.same("the hour", x.number(0), 0);
         Check.same("planned", x.tourOf(1, 0), 0);
@@ -719,12 +764,14 @@ public final class PromiseTest {
             "st 1", "sh", "sta", "hours 123", "hours x", "haurs", "houll", "hall 1", "hall 1 ", "hall 1 2", "hall 1 2/",
             "hall 1 23/1", "hall 1 2/345", "hall 1 2/34x1", "wagons 0 1/2", "wagons 0 1/2x", "wagons 0 1/2x12",
             "wagons 0 1/23", "beds 0 1/2x123", "beds 0 1/2y", "be 0", "bac", "back0", "open 1 ", "open -1", "Tour 1",
-            "tour 1;hours 5;b", "tour \u0661", "tour 1\u0000", "wagon 0 0/0x1", "hall 0/1", " tour 1", "hours 5x"};
+            "tour 1;hours 5;b", "tour \u0661", "tour 1\u0000", "wagon 0 0/0x1", "hall 0/1", " tour 1", "hours 5x",
+            "tour :", "tour /", "hours 1:", "hours 1/"};
         int[] due = {0, 1, 0, 4, 5, 5, 6, 7, 7, 7,
             2, 2, 3, 8, 6, 2, 3, 6, 7, 8, 9,
             8, 11, 11, 12, 13, 14,
             13, 13, 10, 2, 3, 4, 6, 5, 0,
-            16, 5, 6, 5, 6, 0, 7};
+            16, 5, 6, 5, 6, 0, 7,
+            5, 5, 7, 7};
         Check.same("a fault for each text", due.length, texts.length);
         for (int i = 0; i < texts.length; i++) {
             type(x, texts[i]);
@@ -775,6 +822,13 @@ public final class PromiseTest {
         Check.same("undo of tour", x.undo(), 0);
         Check.refuses("no tour", () -> x.tourOf(0, 0), INDEX);
         Check.refuses("nothing more", x::undo, STATE);
+        tell(x, "tour 0;hall 0 0/0;hall 0 1/0;start 0;hours 1");
+        x.back(0);
+        Check.same("undo of back", x.undo(), 1);
+        Check.same("it runs", x.tourOf(0, 0), 1);
+        Check.same("the cause", x.tourOf(0, 5), 0);
+        Check.same("undo of read", x.undo(), 0);
+        Check.same("no tour", x.number(1), 0);
         for (int i = 0; i < 11; i++) {
             x.dear(0, 1 + i % 5);
         }

@@ -1,3 +1,4 @@
+import java.util.List;
 import java.util.function.LongSupplier;
 
 /** Counts what is as it is due, and prints what is not. */
@@ -21,6 +22,15 @@ final class Check {
 
     static void same(String what, long got, long due) {
         same(what, Long.toString(got), Long.toString(due));
+    }
+
+    /** Tells the first line that is not the same. */
+    static void same(String what, List<String> got, List<String> due) {
+        int at = 0;
+        while (at < got.size() && at < due.size() && got.get(at).equals(due.get(at))) {
+            at++;
+        }
+        same(what, at < got.size() ? got.get(at) : "all", at < due.size() ? due.get(at) : "all");
     }
 
     static void yes(String what, boolean isSo) {

@@ -733,8 +733,6 @@ public final class PromiseTest {
     }
 
     private static void readRefused() {
-        TheatreSaga x = new TheatreSaga();
-        tell(x, "tour 0;hall 0 0/0");
         String[] texts = {"shut 0;shut 0", "tour 1;start 1", "open 3", "hall 0 0/0", "back 0", "start 0;start 0",
             "tour 5", "tour 0;hall 9 0/0", "hall 0 5/0", "tour 0;tour 0;hall 0 0/20", "wagons 0 0/0x0",
             "hours 0", "hours 1;hours 41", "beds 0 1/1x13", "beds 0 1/1x00", "wagons 0 1/1x5", "shut 5", "open 9",
@@ -744,6 +742,8 @@ public final class PromiseTest {
             {20, 0}, {20, 1}, {20, 0}, {20, 0}, {20, 0}, {20, 0}, {20, 0},
             {20, 0}, {20, 0}, {20, 0}, {1, 6}};
         for (int i = 0; i < texts.length; i++) {
+            TheatreSaga x = new TheatreSaga();
+            tell(x, "tour 0;hall 0 0/0");
             type(x, texts[i]);
             Check.refuses(texts[i], x::read, REFUSED);
             refused(texts[i], x, due[i][0], due[i][1]);
@@ -753,13 +753,11 @@ public final class PromiseTest {
             Check.same("no tour", x.number(1), 1);
             Check.same("planned", x.number(2), 1);
             Check.same("no town is shut", x.number(14), 5);
+            Check.refuses("no fault position was kept", x::faultPosition, NONE);
         }
-        Check.refuses("no fault position was kept", x::faultPosition, NONE);
     }
 
     private static void faultPosition() {
-        TheatreSaga x = new TheatreSaga();
-        Check.refuses("none was kept", x::faultPosition, NONE);
         String[] texts = {"", "t", "x", "tour", "tour ", "tour  1", "tour 12", "tour 1;", "tour 1;;", "tour 1; tour 2",
             "st 1", "sh", "sta", "hours 123", "hours x", "haurs", "houll", "hall 1", "hall 1 ", "hall 1 2", "hall 1 2/",
             "hall 1 23/1", "hall 1 2/345", "hall 1 2/34x1", "wagons 0 1/2", "wagons 0 1/2x", "wagons 0 1/2x12",
@@ -774,11 +772,16 @@ public final class PromiseTest {
             5, 5, 7, 7};
         Check.same("a fault for each text", due.length, texts.length);
         for (int i = 0; i < texts.length; i++) {
+            TheatreSaga x = new TheatreSaga();
+            Check.refuses("none was kept", x::faultPosition, NONE);
             type(x, texts[i]);
             Check.refuses(texts[i], x::read, ARGUMENT);
             Check.answers(texts[i], x::faultPosition, due[i]);
             Check.same("the input is empty", x.number(17), 0);
         }
+        TheatreSaga x = new TheatreSaga();
+        type(x, "hours 1/");
+        Check.refuses("no text", x::read, ARGUMENT);
         tell(x, "tour 0");
         x.undo();
         Check.answers("it stays", x::faultPosition, 7);

@@ -16,6 +16,7 @@ public final class PromiseTest {
     public static void main(String[] args) {
         newObject();
         examples();
+        readme();
         tour();
         step();
         start();
@@ -123,6 +124,23 @@ public final class PromiseTest {
         Check.same("example 3", z.pass(1), 1);
         Check.same("example 3", z.tourOf(0, 7), 9);
         Check.same("example 3", z.line(0), 16);
+    }
+
+    /** What README.md shows. */
+    private static void readme() {
+        TheatreSaga theatre = new TheatreSaga();
+        int tour = theatre.tour(1);
+        theatre.step(tour, 0, 2, 5, 1);
+        theatre.start(tour);
+        Check.same("README", theatre.endsIn(tour), 1);
+        theatre.pass(1);
+        Check.same("README", theatre.number(7), 98);
+        Check.refuses("README", () -> theatre.start(tour), REFUSED);
+        refused("README", theatre, 2, 3);
+        TheatreSaga told = new TheatreSaga();
+        Check.same("README", tell(told, "tour 1;hall 0 2/5;start 0;hours 1"), 4);
+        Check.same("README", lineOf(told, 0), lineOf(theatre, tour));
+        Check.same("README", told.number(7), 98);
     }
 
     private static void tour() {
